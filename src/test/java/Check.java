@@ -53,7 +53,16 @@ final class Check {
             if (e.getClass() != due) {
                 fail(what + " threw " + e + ", due is " + due.getSimpleName());
             }
+            if (!isThrownByProgram(e)) {
+                fail(what + " was thrown by the machine or the library");
+            }
         }
+    }
+
+    /** The program is to throw itself: never the machine in it, nor a list that it asks. */
+    static boolean isThrownByProgram(Throwable e) {
+        StackTraceElement[] trace = e.getStackTrace();
+        return trace.length > 0 && trace[0].getClassName().startsWith("Spellreform");
     }
 
     static void noIndex(String what, Call call) {

@@ -116,7 +116,9 @@ public final class ManyRunsTest {
         try {
             return String.valueOf(method.invoke(of, arguments));
         } catch (InvocationTargetException e) {
-            return "throws " + e.getCause().getClass().getName();
+            boolean isOurs = of instanceof Spellreform;
+            String thrown = "throws " + e.getCause().getClass().getName();
+            return isOurs && !Check.isThrownByProgram(e.getCause()) ? thrown + " elsewhere" : thrown;
         } catch (IllegalAccessException e) {
             throw new IllegalStateException(e);
         }

@@ -47,8 +47,9 @@ public final class PeopleTest {
         int rare = Check.addWord(x, "ta-t", 0, 99, false);
         int often = Check.addWord(x, "ta-t", 0, 100, false);
         int name = Check.addWord(x, "ta-t", 0, 5, true);
+        int known = Check.addWord(x, "ta-t", 0, 999, false);
         Check.putRule(x, "t-th", 1);
-        for (int word = 0; word < 3; word++) {
+        for (int word = 0; word < 4; word++) {
             Check.except(x, word, 1, "exc");
         }
         Check.except(x, often, 0, "nought");
@@ -64,13 +65,14 @@ public final class PeopleTest {
         x.learn(0, 1);
         writes(x, "39 rare exception by rules", rare, "thath");
         writes(x, "39 frequent exception", often, "exc");
+        writes(x, "39 most frequent exception", known, "exc");
         writes(x, "39 name, still", name, "tat");
         Check.type(x, "");
         x.except(rare, 1);
         writes(x, "39 no exception", rare, "thath");
         Check.noIndex("39 reader", () -> x.write(1, 0));
         Check.noIndex("39 reader -1", () -> x.write(-1, 0));
-        Check.noIndex("39 word", () -> x.write(0, 3));
+        Check.noIndex("39 word", () -> x.write(0, 4));
         Check.noIndex("39 word -1", () -> x.write(0, -1));
         Check.isText("39 nothing is changed", Check.buffer(x), "thath");
     }
