@@ -36,16 +36,18 @@ public final class Spellreform {
     private final Text buffer = new Text();
     private final ArrayList<Word> words = new ArrayList<Word>();
     private final ArrayList<Rule> rules = new ArrayList<Rule>();
+    /** The orthography 0. */
+    private final Orthography firstOne = new Orthography();
     private final ArrayList<Orthography> orthographies = new ArrayList<Orthography>();
     private final ArrayList<Decree> decrees = new ArrayList<Decree>();
     private final ArrayList<House> houses = new ArrayList<House>();
-    /** What each reader learned, by the readers' numbers. */
-    private final ArrayList<Row> readers = new ArrayList<Row>();
+    private final ArrayList<Reader> readers = new ArrayList<Reader>();
     private final ArrayList<Collected> corpus = new ArrayList<Collected>();
     private int grace = FIRST_GRACE;
 
     public Spellreform() {
-        for (int i = 0; i < ORTHOGRAPHIES; i++) {
+        orthographies.add(firstOne);
+        for (int i = 1; i < ORTHOGRAPHIES; i++) {
             orthographies.add(new Orthography());
         }
         for (int i = 0; i < HOUSES; i++) {
@@ -208,10 +210,10 @@ public final class Spellreform {
         Orthography there = orthographyOf(to);
         needLetters();
         int first = nthReading(here, 0);
-        if (first == NONE) {
+        if (!there.has(first)) {
             throw new NoSuchElementException("there is no conversion");
         }
-        Text converted = entryOf(first, to).spelled();
+        Text converted = there.entries.get(first).spelled();
         if (isOpen(here, there, converted)) {
             throw new IllegalStateException("the conversion is open");
         }
@@ -231,7 +233,7 @@ public final class Spellreform {
         int pairs = 0;
         for (int i = 0; i < words.size(); i++) {
             for (int j = i + 1; j < words.size(); j++) {
-                if (areAlike(there, i, j)) {
+                if (there.areAlike(i, j)) {
                     pairs++;
                 }
             }
@@ -245,7 +247,7 @@ public final class Spellreform {
         int pairs = 0;
         for (int i = 0; i < words.size(); i++) {
             for (int j = i + 1; j < words.size(); j++) {
-                if (areAlike(there, i, j) && !areAlike(here, i, j)) {
+                if (there.areAlike(i, j) && !here.areAlike(i, j)) {
                     pairs++;
                 }
             }
@@ -255,8 +257,8 @@ public final class Spellreform {
 
     public int rank(int word, int orthography)
             throws IndexOutOfBoundsException, IllegalArgumentException {
-        entryOf(word, orthography);
-        return rankThere(word, orthographyOf(orthography));
+        wordNumbered(word);
+        return orthographyOf(orthography).rank(word);
     }
 
     public int moved(int orthography, int to) throws IllegalArgumentException {
@@ -264,7 +266,7 @@ public final class Spellreform {
         Orthography there = orthographyOf(to);
         int count = 0;
         for (int i = 0; i < words.size(); i++) {
-            if (rankThere(i, here) != rankThere(i, there)) {
+            if (here.rank(i) != there.rank(i)) {
                 count++;
             }
         }
@@ -353,10 +355,9 @@ public final class Spellreform {
         int at = 0;
         for (int left = drafted.size(); left > 0; left--) {
             int number = drafted.at(at);
-            Rule heard = ruleNumbered(number);
-            if (!heard.isAgreed()) {
+            if (!isAgreed(number)) {
                 drafted.removeAt(at);
-            } else if (clashesThere(heard, there)) {
+            } else if (clashesThere(rules.get(number), there)) {
                 at++;
             } else {
                 there.putInForce(number, true);
@@ -450,40 +451,40 @@ public final class Spellreform {
         if (readers.size() >= MOST_READERS) {
             throw new IllegalStateException("there are 10 readers");
         }
-        readers.add(new Row());
+        readers.add(new Reader(firstOne));
         return readers.size() - 1;
     }
 
     public int learn(int reader, int orthography)
             throws IndexOutOfBoundsException, IllegalArgumentException, IllegalStateException {
-        Row learned = learnedBy(reader);
-        orthographyOf(orthography);
-        if (learned.size() >= MOST_LEARNED) {
+        Reader learning = readerNumbered(reader);
+        Orthography next = orthographyOf(orthography);
+        if (learning.learned >= MOST_LEARNED) {
             throw new IllegalStateException("the reader has learned 8");
         }
-        learned.add(orthography);
-        return learned.size();
+        learning.learn(next);
+        return learning.learned;
     }
 
     public int write(int reader, int word) throws IndexOutOfBoundsException {
-        Row learned = learnedBy(reader);
-        wordNumbered(word);
-        buffer.copy(writtenBy(learned, word));
+        Reader writing = readerNumbered(reader);
+        buffer.copy(writing.written(entryThere(writing.last, word)));
         return buffer.length();
     }
 
     public int mistakes(int reader, int year)
             throws IndexOutOfBoundsException, IllegalArgumentException {
-        Row learned = learnedBy(reader);
+        Reader writing = readerNumbered(reader);
         needYear(year);
         int rightOne = rightIn(year);
         int borneOne = borneIn(year);
         int sum = 0;
-        for (int i = 0; i < words.size(); i++) {
-            Text written = writtenBy(learned, i);
-            if (!words.get(i).isName && !isSpelledIn(rightOne, i, written)
+        for (int i = 0; i < writing.last.entries.size(); i++) {
+            Entry entry = writing.last.entries.get(i);
+            Text written = writing.written(entry);
+            if (!entry.word.isName && !isSpelledIn(rightOne, i, written)
                     && !isSpelledIn(borneOne, i, written)) {
-                sum += words.get(i).use;
+                sum += entry.word.use;
             }
         }
         return sum;
@@ -535,7 +536,7 @@ public final class Spellreform {
 
     public int adoption(int orthography, int year)
             throws IllegalArgumentException, NoSuchElementException {
-        orthographyOf(orthography);
+        Orthography there = orthographyOf(orthography);
         needYear(year);
         int all = 0;
         int spelledSo = 0;
@@ -543,7 +544,7 @@ public final class Spellreform {
             Collected text = corpus.get(i);
             if (text.year == year) {
                 all++;
-                if (isSpelledIn(orthography, text.word, text.text)) {
+                if (there.spells(text.word, text.text)) {
                     spelledSo++;
                 }
             }
@@ -624,11 +625,11 @@ public final class Spellreform {
         return rules.get(number);
     }
 
-    private Row learnedBy(int reader) {
-        if (reader < 0 || reader >= readers.size()) {
+    private Reader readerNumbered(int number) {
+        if (number < 0 || number >= readers.size()) {
             throw new IndexOutOfBoundsException("no such reader");
         }
-        return readers.get(reader);
+        return readers.get(number);
     }
 
     private Orthography orthographyOf(int number) {
@@ -651,7 +652,7 @@ public final class Spellreform {
     }
 
     private static Entry entryThere(Orthography there, int word) {
-        if (word < 0 || word >= there.entries.size()) {
+        if (!there.has(word)) {
             throw new IndexOutOfBoundsException("no such word");
         }
         return there.entries.get(word);
@@ -796,22 +797,6 @@ public final class Spellreform {
         return false;
     }
 
-    private static boolean areAlike(Orthography there, int first, int second) {
-        return entryThere(there, first).isSpelled(entryThere(there, second).spelled());
-    }
-
-    private static int rankThere(int word, Orthography there) {
-        Text spelled = entryThere(there, word).spelled();
-        int ahead = 0;
-        for (int i = 0; i < there.entries.size(); i++) {
-            int order = there.entries.get(i).spelled().order(spelled);
-            if (order < 0 || order == 0 && i < word) {
-                ahead++;
-            }
-        }
-        return ahead;
-    }
-
     private static boolean canBreak(Text spelled, int place) {
         return place >= 2 && spelled.length() - place >= 2
                 && !isVowel(spelled.at(place)) && isVowel(spelled.at(place + 1))
@@ -869,17 +854,21 @@ public final class Spellreform {
         int sum = 0;
         for (int i = 0; i < there.entries.size(); i++) {
             Entry entry = there.entries.get(i);
-            if (entry.word.origin != 0 && isSpelledIn(0, i, entry.spelled())) {
+            if (entry.word.origin != 0 && firstOne.spells(i, entry.spelled())) {
                 sum += entry.word.use;
             }
         }
         return sum;
     }
 
-    // Committees, years and people
+    // Committees and years
 
     private static int withState(int states, int state, boolean isIn) {
         return isIn ? states | (1 << state) : states & ~(1 << state);
+    }
+
+    private boolean isAgreed(int rule) {
+        return rule >= 0 && rule < rules.size() && rules.get(rule).isAgreed();
     }
 
     /** The decree that rules in the year, null without one. */
@@ -908,18 +897,10 @@ public final class Spellreform {
         return before == ruling.orthography ? NONE : before;
     }
 
+    /** False for the orthography NONE. */
     private boolean isSpelledIn(int orthography, int word, Text text) {
-        return orthography != NONE && entryOf(word, orthography).isSpelled(text);
-    }
-
-    private Text writtenBy(Row learned, int word) {
-        int last = learned.size() == 0 ? 0 : learned.at(learned.size() - 1);
-        Entry entry = entryOf(word, last);
-        if (entry.word.isName) {
-            return entry.word.sounds;
-        }
-        boolean isByRulesAlone = entry.word.use < RARE_BELOW && learned.size() > 1;
-        return isByRulesAlone ? entry.whole.letters : entry.spelled();
+        return orthography >= 0 && orthography < orthographies.size()
+                && orthographies.get(orthography).spells(word, text);
     }
 
     /** Signs in a row, with room for the longest spelling. */
@@ -1216,6 +1197,36 @@ public final class Spellreform {
                 inForce[rule] = isIn;
             }
         }
+
+        boolean has(int word) {
+            return word >= 0 && word < entries.size();
+        }
+
+        boolean spells(int word, Text text) {
+            return has(word) && entries.get(word).isSpelled(text);
+        }
+
+        boolean areAlike(int first, int second) {
+            return has(second) && spells(first, entries.get(second).spelled());
+        }
+
+        int rank(int word) {
+            int ahead = 0;
+            for (int i = 0; i < entries.size(); i++) {
+                if (isAhead(i, word)) {
+                    ahead++;
+                }
+            }
+            return ahead;
+        }
+
+        private boolean isAhead(int word, int other) {
+            if (!has(word) || !has(other)) {
+                return false;
+            }
+            int order = entries.get(word).spelled().order(entries.get(other).spelled());
+            return order < 0 || order == 0 && word < other;
+        }
     }
 
     private static final class Decree {
@@ -1266,6 +1277,30 @@ public final class Spellreform {
         private void removeEdition(int index) {
             orthographies.removeAt(index);
             copies.removeAt(index);
+        }
+    }
+
+    private static final class Reader {
+        /** The orthography that was learned last. */
+        Orthography last;
+        int learned;
+
+        Reader(Orthography atFirst) {
+            last = atFirst;
+        }
+
+        void learn(Orthography next) {
+            last = next;
+            learned++;
+        }
+
+        /** The entry is one of the last orthography. */
+        Text written(Entry entry) {
+            if (entry.word.isName) {
+                return entry.word.sounds;
+            }
+            boolean isByRulesAlone = entry.word.use < RARE_BELOW && learned > 1;
+            return isByRulesAlone ? entry.whole.letters : entry.spelled();
         }
     }
 

@@ -6,6 +6,7 @@ final class Check {
 
     private static int failures = 0;
     private static int checks = 0;
+    private static String sentence = "";
 
     private Check() {
     }
@@ -39,12 +40,17 @@ final class Check {
         }
     }
 
-    static void fail(String what) {
-        failures++;
-        System.out.println(what);
+    /** The sentence that a failure is told with. */
+    static void about(String told) {
+        sentence = told.isEmpty() ? "" : "\"" + told + "\": ";
     }
 
-    private static void fails(String what, Class<?> due, Call call) {
+    static void fail(String what) {
+        failures++;
+        System.out.println(sentence + what);
+    }
+
+    static void fails(String what, Class<?> due, Call call) {
         checks++;
         try {
             long got = call.answer();
