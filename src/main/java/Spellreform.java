@@ -258,7 +258,7 @@ public final class Spellreform {
     public int rank(int word, int orthography)
             throws IndexOutOfBoundsException, IllegalArgumentException {
         wordNumbered(word);
-        return orthographyOf(orthography).rank(word);
+        return orthographyOf(orthography).rankOf(word);
     }
 
     public int moved(int orthography, int to) throws IllegalArgumentException {
@@ -266,7 +266,7 @@ public final class Spellreform {
         Orthography there = orthographyOf(to);
         int count = 0;
         for (int i = 0; i < words.size(); i++) {
-            if (here.rank(i) != there.rank(i)) {
+            if (here.rankOf(i) != there.rankOf(i)) {
                 count++;
             }
         }
@@ -462,7 +462,7 @@ public final class Spellreform {
         if (learning.learned >= MOST_LEARNED) {
             throw new IllegalStateException("the reader has learned 8");
         }
-        learning.learn(next);
+        learning.goOnTo(next);
         return learning.learned;
     }
 
@@ -1210,7 +1210,7 @@ public final class Spellreform {
             return has(second) && spells(first, entries.get(second).spelled());
         }
 
-        int rank(int word) {
+        int rankOf(int word) {
             int ahead = 0;
             for (int i = 0; i < entries.size(); i++) {
                 if (isAhead(i, word)) {
@@ -1289,7 +1289,7 @@ public final class Spellreform {
             last = atFirst;
         }
 
-        void learn(Orthography next) {
+        void goOnTo(Orthography next) {
             last = next;
             learned++;
         }

@@ -78,6 +78,10 @@ public final class LanguageTest {
             int modifiers = inside.getModifiers();
             Check.is("class: " + inside.getSimpleName(), Modifier.isStatic(modifiers)
                     && !Modifier.isPublic(modifiers) && !Modifier.isProtected(modifiers), true);
+            for (Method method : inside.getDeclaredMethods()) {
+                Check.is("a name of the face: " + inside.getSimpleName() + "." + method.getName(),
+                        shown.contains(method.getName()), false);
+            }
         }
         Check.is("classes", Spellreform.class.getDeclaredClasses().length <= 12, true);
     }

@@ -170,6 +170,19 @@ public final class PeopleTest {
         Check.is("41 sold out", x.sell(0, 9999), 19);
         Check.is("41 room again", x.print(0, 1, 3), 22);
         Check.badState("41 full again", () -> x.print(0, 0, 1));
+        refusedEditionLeavesNothing();
+    }
+
+    /** The orthography of an edition that was refused must not come to the next one. */
+    private static void refusedEditionLeavesNothing() {
+        Spellreform x = new Spellreform();
+        for (int i = 0; i < 20; i++) {
+            x.print(0, 0, 1);
+        }
+        Check.badState("41 refused", () -> x.print(0, 3, 1));
+        Check.is("41 one is sold", x.sell(0, 1), 19);
+        Check.is("41 the next one", x.print(0, 0, 1), 20);
+        Check.is("41 all are in the right orthography", x.pulp(0, 0), 0);
     }
 
     private static void promise42() {

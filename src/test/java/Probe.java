@@ -1,7 +1,7 @@
 /**
  * Tells all that the calls answer of an object, the asking ones first and then the changing ones;
  * the object is used up by then. Two objects that tell the same are in the same state, as far as
- * a caller can see. It needs some 250 of the 512 calls.
+ * a caller can see. It needs some 270 of the 512 calls.
  */
 final class Probe {
     private static final int[] YEARS = {0, 1, 1989, 1990, 2000, 2006, 2007, 9999};
@@ -130,8 +130,10 @@ final class Probe {
         for (int i = 0; i < 8; i++) {
             int house = i;
             tell("print", () -> x.print(house, 0, 1));
-            tell("sell", () -> x.sell(house, 1));
+            tell("sell", () -> x.sell(house, 2));
+            tell("print", () -> x.print(house, 3, 1));
             tell("pulp", () -> x.pulp(house, 2006));
+            tell("sell", () -> x.sell(house, 1));
         }
     }
 
